@@ -85,36 +85,15 @@ public final class TagWorkshop {
     }
 
     public int stepTape(int n) {
-        int most = within(n, MOST_STEPS);
-        for (int done = 0; done < most; done++) {
-            if (machine.canGoOn() != GOES_ON) {
-                return done;
-            }
-            machine.step();
-        }
-        return most;
+        return machine.makeSteps(n);
     }
 
     public int stepTag(int n) {
-        int most = within(n, MOST_STEPS);
-        for (int done = 0; done < most; done++) {
-            if (tagSystem.canGoOn() != GOES_ON) {
-                return done;
-            }
-            tagSystem.step();
-        }
-        return most;
+        return tagSystem.makeSteps(n);
     }
 
     public int stepCyclic(int n) {
-        int most = within(n, MOST_STEPS);
-        for (int done = 0; done < most; done++) {
-            if (cyclicSystem.canGoOn() != GOES_ON) {
-                return done;
-            }
-            cyclicSystem.step();
-        }
-        return most;
+        return cyclicSystem.makeSteps(n);
     }
 
     public int tapeNow(int what) {
@@ -223,8 +202,27 @@ public final class TagWorkshop {
         return nextBorder() > 0 && code.isOf(machine);
     }
 
+    private abstract static class Machine {
+        /** GOES_ON, HALTED or LIMIT. */
+        abstract int canGoOn();
+
+        /** Only for a machine that can go on. */
+        abstract void step();
+
+        int makeSteps(int n) {
+            int most = within(n, MOST_STEPS);
+            for (int done = 0; done < most; done++) {
+                if (canGoOn() != GOES_ON) {
+                    return done;
+                }
+                step();
+            }
+            return most;
+        }
+    }
+
     /** The rules and the configuration. */
-    private static final class TapeMachine {
+    private static final class TapeMachine extends Machine {
         static final int STATES = 8;
         static final int TO_RIGHT = 1;
         private static final int MISSING = -1, HALT = 0;
@@ -306,6 +304,7 @@ public final class TagWorkshop {
             return nexts[place(q, s)];
         }
 
+        @Override
         int canGoOn() {
             if (!hasStep(state, symbol)) {
                 return HALTED;
@@ -314,6 +313,7 @@ public final class TagWorkshop {
             return 2 * doubled + writeOf(state, symbol) > MOST_CELLS ? LIMIT : GOES_ON;
         }
 
+        @Override
         void step() {
             int at = place(state, symbol);
             if (moves[at] == TO_RIGHT) {
@@ -367,7 +367,7 @@ public final class TagWorkshop {
     }
 
     /** Letters with their productions, and a word. */
-    private static final class TagSystem {
+    private static final class TagSystem extends Machine {
         static final int MOST_LETTERS = 300, MOST_IN_PRODUCTION = 12, MOST_IN_WORD = 4000;
         // In the midst of a cyclic round two blocks more than the limit may stand in the word,
         // and a power of two lets a mask bring every place back into the ring.
@@ -398,7 +398,6 @@ public final class TagWorkshop {
 
         void copyFrom(TagSystem other) {
             letters = other.letters;
-            states = other.states;
             for (int v = 0; v < letters; v++) {
                 sizes[v] = other.sizes[v];
                 halting[v] = other.halting[v];
@@ -484,6 +483,7 @@ public final class TagWorkshop {
             return i >= 0 && i < size ? word[front + i & RING - 1] : NONE;
         }
 
+        @Override
         int canGoOn() {
             if (size < 2 || halting[word[front]]) {
                 return HALTED;
@@ -491,6 +491,7 @@ public final class TagWorkshop {
             return size - 2 + sizes[word[front]] > MOST_IN_WORD ? LIMIT : GOES_ON;
         }
 
+        @Override
         void step() {
             int first = word[front];
             takeTwo();
@@ -503,7 +504,7 @@ public final class TagWorkshop {
      * only whole blocks are put to the end, so at a border every block is still that of a letter.
      * Within a round its first two blocks stay, less the bits that the turn says are taken.
      */
-    private static final class CyclicSystem {
+    private static final class CyclicSystem extends Machine {
         private final TagSystem blocks = new TagSystem();
         int turn = 0;
 
@@ -550,11 +551,13 @@ public final class TagWorkshop {
             return turn == 0 ? blocks.wordLetter(i) : NONE;
         }
 
+        @Override
         int canGoOn() {
             // Two whole blocks stood at the border, so within the round there is always a bit.
             return turn == 0 ? blocks.canGoOn() : GOES_ON;
         }
 
+        @Override
         void step() {
             // The first block's only 1 comes up in its own appendant's turn; the second block's
             // comes in the turn of an empty one.
@@ -599,8 +602,11 @@ public final class TagWorkshop {
             if (!TagMaker.isBase(base, system.states) || system.size % 2 != 0) {
                 return false;
             }
+            if (!isPair(system, 0, base + TagMaker.A)) {
+                return false;
+            }
             int leftEnd = pairsEnd(system, 1, base + TagMaker.a);
-            if (!isPair(system, 0, base + TagMaker.A) || !isPair(system, leftEnd, base + TagMaker.B)) {
+            if (!isPair(system, leftEnd, base + TagMaker.B)) {
                 return false;
             }
             int rightEnd = pairsEnd(system, leftEnd + 1, base + TagMaker.b);
