@@ -1,111 +1,13 @@
 /** Each promise of the document by answers that were worked out by hand. */
-public final class PromiseTest {
-    private static final int NONE = TagWorkshop.NONE, LIMIT = TagWorkshop.LIMIT;
-    private static final int LEAST = Integer.MIN_VALUE, GREATEST = Integer.MAX_VALUE;
-    private static int answers = 0;
-    private static int wrong = 0;
-
-    private static void due(int promise, String what, int got, int want) {
-        answers++;
-        if (got != want) {
-            wrong++;
-            System.out.println("promise " + promise + ": " + what + " answered " + got + ", due is " + want);
-        }
+public final class PromiseTest extends Bench {
+    private static void due(int promise, String what, Object got, Object want) {
+        look("promise " + promise, what, got, want);
     }
-
-    private static void due(int promise, String what, boolean got, boolean want) {
-        due(promise, what, got ? 1 : 0, want ? 1 : 0);
-    }
-
-    private static void due(int promise, String what, String got, String want) {
-        answers++;
-        if (!got.equals(want)) {
-            wrong++;
-            System.out.println("promise " + promise + ": " + what + " is '" + got + "', due is '" + want + "'");
-        }
-    }
-
-    // ---- what the tests begin with
-
-    /** Rules to the right and to the left in state 1, and a halt in state 2. */
-    private static TagWorkshop twoStates() {
-        TagWorkshop x = new TagWorkshop();
-        x.rule(1, 0, 1, 1, 2);
-        x.rule(1, 1, 1, 0, 1);
-        x.rule(2, 0, 1, 0, 1);
-        x.rule(2, 1, 0, 1, 0);
-        x.tape(1, 0, 2, 3);
-        return x;
-    }
-
-    private static TagWorkshop made() {
-        TagWorkshop x = twoStates();
-        x.compileTag();
-        return x;
-    }
-
-    /** One state that walks one way for ever and writes the same. */
-    private static TagWorkshop walker(int write, int move) {
-        TagWorkshop x = new TagWorkshop();
-        x.rule(1, 0, write, move, 1);
-        x.rule(1, 1, write, move, 1);
-        return x;
-    }
-
-    /** A user's system; the productions stand one behind the other, a row of letters each. */
-    private static TagWorkshop own(int[]... productions) {
-        TagWorkshop x = new TagWorkshop();
-        x.ownTag(productions.length);
-        for (int letter = 0; letter < productions.length; letter++) {
-            for (int v : productions[letter]) x.extend(letter, v);
-        }
-        return x;
-    }
-
-    private static int[] row(int... letters) { return letters; }
-
-    private static void putAll(TagWorkshop x, int... letters) {
-        for (int v : letters) x.put(v);
-    }
-
-    private static String productionOf(TagWorkshop x, int letter) {
-        StringBuilder text = new StringBuilder();
-        for (int i = 0; x.production(letter, i) != NONE; i++) text.append(x.production(letter, i)).append(' ');
-        return text.toString().trim();
-    }
-
-    private static String wordOf(TagWorkshop x) {
-        StringBuilder text = new StringBuilder();
-        for (int i = 0; i < x.tagNow(1); i++) text.append(x.tagLetter(i)).append(' ');
-        return text.toString().trim();
-    }
-
-    private static String bitsOf(TagWorkshop x) {
-        StringBuilder text = new StringBuilder();
-        for (int i = 0; i < x.cyclicNow(1); i++) text.append(x.cyclicBit(i));
-        return text.toString();
-    }
-
-    private static String appendantOf(TagWorkshop x, int k) {
-        StringBuilder text = new StringBuilder();
-        for (int i = 0; x.appendant(k, i) != NONE; i++) text.append(x.appendant(k, i));
-        return text.toString();
-    }
-
-    private static String configurationOf(TagWorkshop x) {
-        return x.tapeNow(0) + " " + x.tapeNow(1) + " " + x.tapeNow(2) + " " + x.tapeNow(3);
-    }
-
-    private static String decodedOf(TagWorkshop x) {
-        return x.decodeTag(0) + " " + x.decodeTag(1) + " " + x.decodeTag(2) + " " + x.decodeTag(3);
-    }
-
-    // ---- the promises
 
     private static void newObject() {
         due(1, "NONE", NONE, -1);
         due(1, "LIMIT", LIMIT, -2);
-        TagWorkshop x = new TagWorkshop();
+        CountedWorkshop x = new CountedWorkshop();
         due(1, "the configuration", configurationOf(x), "1 0 0 0");
         due(1, "a rule that is missing halts", x.tapeNow(4), 0);
         due(1, "L", x.tagNow(0), 0);
@@ -129,7 +31,7 @@ public final class PromiseTest {
     }
 
     private static void rule() {
-        TagWorkshop x = twoStates();
+        CountedWorkshop x = twoStates();
         int[][] bad = {
             {0, 0, 0, 0, 0}, {9, 0, 0, 0, 0}, {LEAST, 0, 0, 0, 0}, {GREATEST, 0, 0, 0, 0},
             {1, -1, 0, 0, 0}, {1, 2, 0, 0, 0}, {1, 0, -1, 0, 0}, {1, 0, 2, 0, 0}, {1, 0, 0, -1, 0},
@@ -149,7 +51,7 @@ public final class PromiseTest {
     }
 
     private static void tape() {
-        TagWorkshop x = made();
+        CountedWorkshop x = made();
         int[][] bad = {
             {0, 0, 0, 0}, {9, 0, 0, 0}, {1, -1, 0, 0}, {1, 2, 0, 0}, {1, 0, -1, 0}, {1, 0, 256, 0},
             {1, 0, 0, -1}, {1, 0, 0, 256}, {LEAST, 0, 0, 0}, {1, GREATEST, 0, 0}, {1, 0, LEAST, GREATEST},
@@ -173,7 +75,7 @@ public final class PromiseTest {
     };
 
     private static void compileTagProductions() {
-        TagWorkshop x = twoStates();
+        CountedWorkshop x = twoStates();
         due(4, "letters", x.compileTag(), 73);
         due(4, "x", productionOf(x, 0), "");
         for (int j = 0; j < 18; j++) {
@@ -191,7 +93,7 @@ public final class PromiseTest {
     }
 
     private static void compileTagHalts() {
-        TagWorkshop x = twoStates();
+        CountedWorkshop x = twoStates();
         x.tape(2, 1, 0, 0);
         due(4, "letters", x.compileTag(), 73);
         due(4, "the word", wordOf(x), "55 0 57 0");
@@ -199,7 +101,7 @@ public final class PromiseTest {
         x.tape(2, 0, 0, 0);
         x.compileTag();
         due(4, "another A does not", x.tagNow(2), 1);
-        x = new TagWorkshop();
+        x = new CountedWorkshop();
         x.rule(1, 0, 0, 0, 0);
         x.rule(1, 1, 0, 0, 0);
         x.rule(3, 0, 0, 0, 1);
@@ -214,7 +116,7 @@ public final class PromiseTest {
     }
 
     private static void compileTagRefuses() {
-        TagWorkshop x = made();
+        CountedWorkshop x = made();
         x.compileCyclic();
         x.stepCyclic(3);
         x.tape(3, 0, 1, 1);
@@ -239,7 +141,7 @@ public final class PromiseTest {
         x.tape(8, 0, 255, 255);
         due(4, "all states", x.compileTag(), 289);
         due(4, "the longest code", x.tagNow(1), 1024);
-        x = new TagWorkshop();
+        x = new CountedWorkshop();
         x.rule(1, 1, 0, 0, 1);
         due(4, "the rule of symbol 0 is missing", x.compileTag(), 0);
         x.rule(1, 0, 0, 0, 2);
@@ -249,7 +151,7 @@ public final class PromiseTest {
     }
 
     private static void ownTag() {
-        TagWorkshop x = made();
+        CountedWorkshop x = made();
         x.compileCyclic();
         for (int bad : new int[] {0, -1, 301, LEAST, GREATEST}) due(5, "ownTag " + bad, x.ownTag(bad), false);
         due(5, "nothing was changed", x.tagNow(0), 73);
@@ -277,7 +179,7 @@ public final class PromiseTest {
     }
 
     private static void extend() {
-        TagWorkshop x = new TagWorkshop();
+        CountedWorkshop x = new CountedWorkshop();
         x.ownTag(300);
         for (int i = 0; i < 12; i++) due(6, "letter " + i, x.extend(7, 288 + i), true);
         due(6, "a thirteenth", x.extend(7, 0), false);
@@ -295,7 +197,7 @@ public final class PromiseTest {
     }
 
     private static void spoil() {
-        TagWorkshop x = own(row(0, 1, 2, 0, 1, 2, 0, 1, 2, 0, 1, 2), row(), row(1));
+        CountedWorkshop x = own(row(0, 1, 2, 0, 1, 2, 0, 1, 2, 0, 1, 2), row(), row(1));
         due(7, "the first", x.spoil(0, 0, 2), 0);
         due(7, "the sixth", x.spoil(0, 5, 1), 2);
         due(7, "the seventh", x.spoil(0, 6, 1), 0);
@@ -314,7 +216,7 @@ public final class PromiseTest {
     }
 
     private static void halts() {
-        TagWorkshop x = own(row(0, 0, 0), row());
+        CountedWorkshop x = own(row(0, 0, 0), row());
         putAll(x, 0, 1);
         due(8, "letter 0", x.halts(0, true), true);
         due(8, "it halts", x.tagNow(2), 0);
@@ -327,7 +229,7 @@ public final class PromiseTest {
     }
 
     private static void put() {
-        TagWorkshop x = own(row(0, 0, 0), row());
+        CountedWorkshop x = own(row(0, 0, 0), row());
         due(9, "0", x.put(0), true);
         due(9, "1", x.put(1), true);
         for (int bad : new int[] {-1, 2, LEAST, GREATEST}) due(9, "none", x.put(bad), false);
@@ -342,7 +244,7 @@ public final class PromiseTest {
     }
 
     private static void production() {
-        TagWorkshop x = own(row(2, 1), row(), row(0));
+        CountedWorkshop x = own(row(2, 1), row(), row(0));
         due(10, "0, 0", x.production(0, 0), 2);
         due(10, "0, 1", x.production(0, 1), 1);
         due(10, "2, 0", x.production(2, 0), 0);
@@ -352,7 +254,7 @@ public final class PromiseTest {
     }
 
     private static void compileCyclic() {
-        TagWorkshop x = new TagWorkshop();
+        CountedWorkshop x = new CountedWorkshop();
         due(11, "no tag system", x.compileCyclic(), 0);
         x = own(row(1, 2), row(0), row(0, 0, 0));
         due(11, "with an empty word", x.compileCyclic(), 6);
@@ -376,7 +278,7 @@ public final class PromiseTest {
     }
 
     private static void appendant() {
-        TagWorkshop x = own(row(1, 2), row(), row(0, 0, 0));
+        CountedWorkshop x = own(row(1, 2), row(), row(0, 0, 0));
         due(12, "before it is made", x.appendant(0, 0), NONE);
         x.compileCyclic();
         due(12, "0", appendantOf(x, 0), "010001");
@@ -393,7 +295,7 @@ public final class PromiseTest {
     }
 
     private static void stepTape() {
-        TagWorkshop x = twoStates();
+        CountedWorkshop x = twoStates();
         due(13, "none", x.stepTape(0), 0);
         due(13, "below 0", x.stepTape(-1), 0);
         due(13, "far below 0", x.stepTape(LEAST), 0);
@@ -423,7 +325,7 @@ public final class PromiseTest {
     }
 
     private static void stepTag() {
-        TagWorkshop x = own(row(1, 2), row(0), row(0, 0, 0));
+        CountedWorkshop x = own(row(1, 2), row(0), row(0, 0, 0));
         putAll(x, 0, 0, 0);
         due(14, "none", x.stepTag(0), 0);
         due(14, "below 0", x.stepTag(LEAST), 0);
@@ -458,7 +360,7 @@ public final class PromiseTest {
     }
 
     private static void stepCyclic() {
-        TagWorkshop x = own(row(1, 2), row(0), row(0, 0, 0));
+        CountedWorkshop x = own(row(1, 2), row(0), row(0, 0, 0));
         putAll(x, 0, 0, 0);
         due(15, "without a cyclic system", x.stepCyclic(5), 0);
         x.compileCyclic();
@@ -491,7 +393,7 @@ public final class PromiseTest {
     }
 
     private static void stepCyclicLimit() {
-        TagWorkshop x = own(row(0, 0, 0));
+        CountedWorkshop x = own(row(0, 0, 0));
         putAll(x, 0, 0);
         x.stepTag(3997);
         x.compileCyclic();
@@ -500,7 +402,7 @@ public final class PromiseTest {
         due(15, "up to its limit", x.stepCyclic(20000), 1);
         due(15, "bits", x.cyclicNow(1), 4000);
         due(15, "the limit", x.cyclicNow(2), LIMIT);
-        x = new TagWorkshop();
+        x = new CountedWorkshop();
         x.ownTag(300);
         for (int i = 0; i < 12; i++) x.extend(299, 299);
         putAll(x, 299, 299);
@@ -514,7 +416,7 @@ public final class PromiseTest {
     }
 
     private static void tapeNow() {
-        TagWorkshop x = twoStates();
+        CountedWorkshop x = twoStates();
         x.tape(1, 1, 4, 130);
         due(16, "the configuration", configurationOf(x), "1 1 4 130");
         due(16, "the limit to the left", x.tapeNow(4), LIMIT);
@@ -530,7 +432,7 @@ public final class PromiseTest {
     }
 
     private static void tagNow() {
-        TagWorkshop x = made();
+        CountedWorkshop x = made();
         due(17, "L", x.tagNow(0), 73);
         due(17, "letters", x.tagNow(1), 14);
         due(17, "it goes on", x.tagNow(2), 1);
@@ -544,7 +446,7 @@ public final class PromiseTest {
     }
 
     private static void cyclicNow() {
-        TagWorkshop x = own(row(), row());
+        CountedWorkshop x = own(row(), row());
         putAll(x, 1, 0);
         x.compileCyclic();
         due(18, "appendants", x.cyclicNow(0), 4);
@@ -569,7 +471,7 @@ public final class PromiseTest {
     }
 
     private static void tagLetter() {
-        TagWorkshop x = own(row(1, 2), row(0), row(0, 0, 0));
+        CountedWorkshop x = own(row(1, 2), row(0), row(0, 0, 0));
         putAll(x, 0, 1, 2);
         due(19, "the word", x.tagLetter(0) + 10 * x.tagLetter(1) + 100 * x.tagLetter(2), 210);
         for (int bad : new int[] {-1, 3, 4000, LEAST, GREATEST}) due(19, "none", x.tagLetter(bad), NONE);
@@ -578,7 +480,7 @@ public final class PromiseTest {
     }
 
     private static void cyclicBit() {
-        TagWorkshop x = own(row(1, 2), row(0), row(0, 0, 0));
+        CountedWorkshop x = own(row(1, 2), row(0), row(0, 0, 0));
         putAll(x, 0, 1, 2);
         due(20, "before it is made", x.cyclicBit(0), NONE);
         x.compileCyclic();
@@ -591,7 +493,7 @@ public final class PromiseTest {
     }
 
     private static void decodeTag() {
-        TagWorkshop x = made();
+        CountedWorkshop x = made();
         due(21, "the code", decodedOf(x), "1 0 2 3");
         for (int bad : new int[] {-1, 4, LEAST, GREATEST}) due(21, "another what", x.decodeTag(bad), NONE);
         x.extend(1, 1);
@@ -606,24 +508,14 @@ public final class PromiseTest {
         x.halts(1, false);
         x.stepTag(1);
         due(21, "no border", x.decodeTag(3), NONE);
-        x = new TagWorkshop();
+        x = new CountedWorkshop();
         x.ownTag(73);
         putAll(x, 1, 0, 3, 0);
         due(21, "of a user's system", x.decodeTag(0), NONE);
     }
 
-    /** A made system of two states that do nothing, with an empty word. */
-    private static TagWorkshop still() {
-        TagWorkshop x = new TagWorkshop();
-        for (int q = 1; q <= 2; q++) for (int s = 0; s < 2; s++) x.rule(q, s, 0, 0, 0);
-        x.compileTag();
-        x.halts(1, false);
-        x.stepTag(2);
-        return x;
-    }
-
     private static String decodedWord(int... word) {
-        TagWorkshop x = still();
+        CountedWorkshop x = still();
         putAll(x, word);
         return decodedOf(x);
     }
@@ -647,7 +539,7 @@ public final class PromiseTest {
         due(21, "no last x", decodedWord(1, 0, 3), no);
         due(21, "x in front", decodedWord(0, 1, 0, 3), no);
         due(21, "another letter in front", decodedWord(5, 0, 7, 0), no);
-        TagWorkshop x = still();
+        CountedWorkshop x = still();
         putAll(x, 1, 0, 3, 0);
         for (int i = 0; i < 240; i++) putAll(x, 4, 0);
         due(21, "a great RIGHT", x.decodeTag(3), 240);
@@ -664,7 +556,7 @@ public final class PromiseTest {
     }
 
     private static void decodeCyclic() {
-        TagWorkshop x = own(row(1, 2), row(0), row(0, 0, 0));
+        CountedWorkshop x = own(row(1, 2), row(0), row(0, 0, 0));
         putAll(x, 0, 1, 2);
         due(22, "before it is made", x.decodeCyclic(0), NONE);
         x.compileCyclic();
@@ -679,7 +571,7 @@ public final class PromiseTest {
     }
 
     private static void nextBorder() {
-        TagWorkshop x = made();
+        CountedWorkshop x = made();
         due(23, "to the right", x.nextBorder(), 23);
         due(23, "the code", decodedOf(x), "2 1 5 1");
         due(23, "it halted before", x.nextBorder(), 0);
@@ -709,25 +601,8 @@ public final class PromiseTest {
         due(23, "a border where it halts", x.nextBorder(), 1);
     }
 
-    /** The letters of still() but for those named A. */
-    private static int spare(int i) { return 2 + i + i / 17; }
-
-    /** A made system that comes to its first border after 22312 steps. */
-    private static TagWorkshop slow() {
-        TagWorkshop x = still();
-        for (int pass = 0; pass < 20; pass++) {
-            int copies = pass < 4 ? 12 : 2;
-            for (int i = 0; i < copies; i++) x.extend(spare(pass), spare(pass + 1));
-            x.extend(spare(21 + pass), spare(22 + pass));
-            x.extend(spare(21 + pass), spare(22 + pass));
-        }
-        for (int v : new int[] {1, 0, 3, 0}) x.extend(spare(41), v);
-        putAll(x, spare(21), spare(21), spare(0), spare(0));
-        return x;
-    }
-
     private static void nextBorderFarOff() {
-        TagWorkshop x = slow();
+        CountedWorkshop x = slow();
         due(23, "on the way", x.stepTag(2312), 2312);
         due(23, "just enough", x.nextBorder(), 20000);
         due(23, "the code", decodedOf(x), "1 0 0 0");
@@ -739,7 +614,7 @@ public final class PromiseTest {
     }
 
     private static void roundCost() {
-        TagWorkshop x = twoStates();
+        CountedWorkshop x = twoStates();
         due(24, "to the right", x.roundCost(1, 0, 2, 3), 23);
         due(24, "to the left", x.roundCost(1, 1, 5, 2), 5 + 2 + 2 + 2 * (4 + 1 + 2 + 2));
         due(24, "the least", walker(0, 1).roundCost(1, 0, 0, 0), 6);
@@ -750,7 +625,7 @@ public final class PromiseTest {
             {1, 0, 0, -1}, {1, 0, 0, 256}, {LEAST, LEAST, LEAST, LEAST}, {GREATEST, 0, 0, 0}};
         for (int[] c : bad) due(24, "a wrong number", x.roundCost(c[0], c[1], c[2], c[3]), NONE);
         for (int move = 0; move < 2; move++) for (int write = 0; write < 2; write++) {
-            TagWorkshop w = walker(write, move);
+            CountedWorkshop w = walker(write, move);
             for (int l = 0; l < 5; l++) for (int r = 0; r < 5; r++) {
                 w.tape(1, l % 2, l, r);
                 w.compileTag();
@@ -760,7 +635,7 @@ public final class PromiseTest {
     }
 
     private static void lockStep() {
-        TagWorkshop x = made();
+        CountedWorkshop x = made();
         due(25, "up to the halt", x.lockStep(50), 0);
         due(25, "the configuration", configurationOf(x), "2 1 5 1");
         due(25, "the word", decodedOf(x), "2 1 5 1");
@@ -790,7 +665,7 @@ public final class PromiseTest {
     }
 
     private static void lockStepStopsAt200() {
-        TagWorkshop x = new TagWorkshop();
+        CountedWorkshop x = new CountedWorkshop();
         // Without a count of its own the tape turns: right in state 1, left in state 2.
         for (int s = 0; s < 2; s++) {
             x.rule(1, s, s, 1, 2);
@@ -804,7 +679,7 @@ public final class PromiseTest {
     }
 
     private static void lockStepDisagrees() {
-        TagWorkshop x = made();
+        CountedWorkshop x = made();
         x.spoil(2, 0, 7);
         due(25, "no such border or another", x.lockStep(3), 1);
         x = made();
@@ -837,7 +712,7 @@ public final class PromiseTest {
     }
 
     private static void lockStepRefuses() {
-        TagWorkshop x = made();
+        CountedWorkshop x = made();
         x.rule(3, 0, 0, 0, 3);
         x.tape(3, 0, 1, 1);
         due(25, "no letters for the state", x.lockStep(3), NONE);
@@ -888,7 +763,6 @@ public final class PromiseTest {
         lockStepStopsAt200();
         lockStepDisagrees();
         lockStepRefuses();
-        System.out.println("PromiseTest: " + answers + " answers, " + wrong + " wrong");
-        if (wrong != 0) System.exit(1);
+        end("PromiseTest");
     }
 }
