@@ -4,7 +4,8 @@ import java.util.Random;
 
 /** Long runs of calls, drawn from fixed seeds, on TagWorkshop and on NaiveWorkshop side by side. */
 public final class ModelTest {
-    private static final int RUNS = 600, CALLS = 512;
+    // What is begun when a run has one call left takes some fifty more, and an object has 512.
+    private static final int RUNS = 700, CALLS = 460;
     private static final int[] EDGES = {
         Integer.MIN_VALUE, -2, -1, 0, 1, 2, 8, 9, 12, 255, 256, 300, 301, 20001, Integer.MAX_VALUE,
     };
@@ -12,7 +13,7 @@ public final class ModelTest {
     private static int answers = 0;
 
     private final Random random;
-    private final TagWorkshop got = new TagWorkshop();
+    private final CountedWorkshop got = new CountedWorkshop();
     private final NaiveWorkshop want = new NaiveWorkshop();
     private final List<String> calls = new ArrayList<>();
     private boolean failed = false;

@@ -28,6 +28,9 @@ public final class ReadingBoundaryTest extends Bench {
             x.ownTag(letters);
             putAll(x, 1, 0, 2, 0, 3, 0, 4, 0);
             due("a user's system of " + letters, decodedOf(x), NO_CODE);
+            x.ownTag(letters);
+            putAll(x, 19, 0, 21, 0, 22, 0);
+            due("what would be symbol 1 in it", decodedOf(x), NO_CODE);
             x.compileTag();
             due("a made one in its place", decodedOf(x), "1 0 2 3");
         }
@@ -195,7 +198,7 @@ public final class ReadingBoundaryTest extends Bench {
     }
 
     private static void nextBorderHalts() {
-        sentence("Promise 23", "0 when it halted .. before (the steps stay made)");
+        sentence("Promise 23", "0 when it halted .. before, .. (the steps stay made)");
         refused("no tag system", CountedWorkshop::new, x -> x.nextBorder(), 0);
         refused("an empty word", Bench::still, x -> x.nextBorder(), 0);
         CountedWorkshop x = still();
@@ -226,7 +229,7 @@ public final class ReadingBoundaryTest extends Bench {
     }
 
     private static void nextBorderLimit() {
-        sentence("Promise 23", "0 when it .. came to its LIMIT before (the steps stay made)");
+        sentence("Promise 23", "0 when it .. came to its LIMIT before, .. (the steps stay made)");
         CountedWorkshop x = fullMade(4000);
         due("at its limit", x.tagNow(2), LIMIT);
         due("at once", x.nextBorder(), 0);
@@ -458,6 +461,12 @@ public final class ReadingBoundaryTest extends Bench {
         x = fourSteps();
         x.rule(2, 1, 0, 1, 1);
         due("the tape halts no more, in step 4", x.lockStep(9), 5);
+        x = walker(0, 0);
+        x.compileTag();
+        due("a round that comes back to the same code", x.lockStep(1), 0);
+        x.halts(1, true);
+        due("the border that is there already is not the next one", x.lockStep(1), 1);
+        stoppedAt(x, "1 0 0 0", "1 0 0 0");
     }
 
     private static void lockStepTapeHalts() {
